@@ -351,13 +351,12 @@ public final class Steamfield {
         needRange(warmth, 0, MOST_WARMTH);
         trial.copyFrom(land);
         Block block = trial.blocks[trial.wells[well].block];
-        for (int steps = 0; steps <= MOST_STEPS; steps++) {
-            if (block.warmth() <= warmth) {
-                return steps;
-            }
+        int steps = 0;
+        while (steps < MOST_STEPS && block.warmth() > warmth) {
             trial.step();
+            steps++;
         }
-        return NONE;
+        return block.warmth() <= warmth ? steps : NONE;
     }
 
     /** How much more a spring would flow, if the valve of a well was 0. */
@@ -377,14 +376,19 @@ public final class Steamfield {
     /** The best valves for so many steps: 10 times that of producers and that of injectors. */
     public int bestValves(int steps) {
         needRange(steps, 1, MOST_SEARCH_STEPS);
-        int best = 0;
-        int bestWorth = worthOfValves(0, 0, steps);
+        int lackedBefore = land.lackedEver();
+        int best = NONE;
+        int bestWorth = 0;
+        // From the smallest number on, so that of several the smallest one stays.
         for (int producers = 0; producers <= MOST_VALVE; producers += VALVE_STRIDE) {
             for (int injectors = 0; injectors <= MOST_VALVE; injectors += VALVE_STRIDE) {
-                int worth = worthOfValves(producers, injectors, steps);
-                if (worth > bestWorth) {
-                    bestWorth = worth;
+                trial.copyFrom(land);
+                trial.turnAll(producers, injectors);
+                int power = powerIn(trial, steps);
+                int worth = power - 3 * (trial.lackedEver() - lackedBefore);
+                if (best == NONE || worth > bestWorth) {
                     best = 10 * producers + injectors;
+                    bestWorth = worth;
                 }
             }
         }
@@ -462,17 +466,6 @@ public final class Steamfield {
             land.step();
         }
         return land.plant.powerEver - before;
-    }
-
-    private int worthOfValves(int producers, int injectors, int steps) {
-        trial.copyFrom(land);
-        for (int i = 0; i < trial.wellCount; i++) {
-            Well well = trial.wells[i];
-            well.valve = well.isInjector ? injectors : producers;
-        }
-        int lackedBefore = trial.lackedEver();
-        int power = powerIn(trial, steps);
-        return power - 3 * (trial.lackedEver() - lackedBefore);
     }
 
     /** Water with what it carries: in a block, in the pond, on its way, or in the books. */
@@ -748,13 +741,15 @@ public final class Steamfield {
         }
 
         int lastShock() {
-            return shocks[now & SHOCKS_KEPT - 1];
+            return shocks[now & (SHOCKS_KEPT - 1)];
         }
 
         int shareOf(int owner) {
             int share = 0;
             for (int i = 0; i < blockCount; i++) {
-                share += blocks[i].owner == owner ? blocks[i].volume : 0;
+                if (blocks[i].owner == owner) {
+                    share += blocks[i].volume;
+                }
             }
             return share;
         }
@@ -780,6 +775,12 @@ public final class Steamfield {
             return inBlocks(part) + pond.part(part) + books.spilled.part(part) + books.sprung.part(part);
         }
 
+        void turnAll(int producers, int injectors) {
+            for (int i = 0; i < wellCount; i++) {
+                wells[i].valve = wells[i].isInjector ? injectors : producers;
+            }
+        }
+
         void step() {
             now++;
             int light = light();
@@ -788,17 +789,21 @@ public final class Steamfield {
             }
             int steam = 0;
             for (int i = 0; i < wellCount; i++) {
-                steam += wells[i].isInjector ? 0 : produce(wells[i]);
+                if (!wells[i].isInjector) {
+                    steam += produce(wells[i]);
+                }
             }
             drive(steam);
             warmTheTown();
             spill();
             int shock = 0;
             for (int i = 0; i < wellCount; i++) {
-                shock += wells[i].isInjector ? inject(wells[i], light) : 0;
+                if (wells[i].isInjector) {
+                    shock += inject(wells[i], light);
+                }
             }
-            // The oldest shock is told no more from here on: the light was read above.
-            shocks[now & SHOCKS_KEPT - 1] = shock;
+            // This takes the place of the oldest shock, which the light above still counted.
+            shocks[now & (SHOCKS_KEPT - 1)] = shock;
             for (int i = 0; i < springCount; i++) {
                 letFlow(springs[i]);
             }

@@ -1,0 +1,57 @@
+/** What the tests share: it counts and prints each answer that is not the one that is due. */
+final class Check {
+    interface Call {
+        void make();
+    }
+
+    private static int made = 0;
+    private static int wrong = 0;
+
+    static final Class<?> INDEX = IndexOutOfBoundsException.class;
+    static final Class<?> ARGUMENT = IllegalArgumentException.class;
+    static final Class<?> STATE = IllegalStateException.class;
+
+    private Check() {
+    }
+
+    static void due(String what, long got, long want) {
+        made++;
+        if (got != want) {
+            wrong++;
+            System.out.println(what + " answered " + got + ", due is " + want);
+        }
+    }
+
+    static void due(String what, boolean got, boolean want) {
+        due(what, got ? 1 : 0, want ? 1 : 0);
+    }
+
+    /** The class is compared itself, as a machine's exception may be a subclass of the due one. */
+    static void dueThrow(String what, Class<?> want, Call call) {
+        made++;
+        Class<?> got = null;
+        try {
+            call.make();
+        } catch (RuntimeException e) {
+            got = e.getClass();
+        }
+        if (got != want) {
+            wrong++;
+            System.out.println(what + " threw " + got + ", due is " + want);
+        }
+    }
+
+    /** The same, and nothing is changed by it. */
+    static void dueThrow(String what, Class<?> want, Steamfield field, Call call) {
+        long before = field.digest();
+        dueThrow(what, want, call);
+        due(what + ": digest behind it", field.digest(), before);
+    }
+
+    static void end(String test) {
+        System.out.println(test + ": " + made + " checks, " + wrong + " wrong");
+        if (wrong != 0) {
+            System.exit(1);
+        }
+    }
+}
