@@ -55,7 +55,8 @@ public final class Steamfield {
     // ---- what is told
 
     /** Tells a block; answers its number. */
-    public int block(int volume, int owner, int mass, int warmth, int salt) {
+    public int block(int volume, int owner, int mass, int warmth, int salt)
+            throws IllegalArgumentException, IllegalStateException {
         needRange(volume, 10, 99);
         needRange(owner, 0, OWNERS - 1);
         needRange(mass, 0, 2000);
@@ -75,7 +76,8 @@ public final class Steamfield {
     }
 
     /** Tells a face between two blocks; answers its number. */
-    public int face(int one, int other, int open) {
+    public int face(int one, int other, int open)
+            throws IndexOutOfBoundsException, IllegalArgumentException, IllegalStateException {
         needIndex(one, land.blockCount);
         needIndex(other, land.blockCount);
         if (one == other) {
@@ -93,7 +95,7 @@ public final class Steamfield {
     }
 
     /** Tells a well in a block; answers its number. */
-    public int well(int block, boolean isInjector) {
+    public int well(int block, boolean isInjector) throws IndexOutOfBoundsException, IllegalStateException {
         needIndex(block, land.blockCount);
         needRoom(land.wellCount, MOST_WELLS);
         int number = land.wellCount;
@@ -105,7 +107,8 @@ public final class Steamfield {
     }
 
     /** Tells a spring of a block; answers its number. */
-    public int spring(int block, int level, int promise) {
+    public int spring(int block, int level, int promise)
+            throws IndexOutOfBoundsException, IllegalArgumentException, IllegalStateException {
         needIndex(block, land.blockCount);
         needRange(level, 0, 300);
         needRange(promise, 0, 50);
@@ -120,7 +123,7 @@ public final class Steamfield {
     }
 
     /** Turns the valve of a well; answers where it stood before. */
-    public int valve(int well, int valve) {
+    public int valve(int well, int valve) throws IndexOutOfBoundsException, IllegalArgumentException {
         needIndex(well, land.wellCount);
         needRange(valve, 0, MOST_VALVE);
         int before = land.wells[well].valve;
@@ -129,7 +132,8 @@ public final class Steamfield {
     }
 
     /** Puts tracer into the block of a well; answers how much that block has then. */
-    public int trace(int well, int tracer) {
+    public int trace(int well, int tracer)
+            throws IndexOutOfBoundsException, IllegalArgumentException, IllegalStateException {
         needIndex(well, land.wellCount);
         needRange(tracer, 1, 999);
         Water water = land.blocks[land.wells[well].block].water;
@@ -142,7 +146,7 @@ public final class Steamfield {
     }
 
     /** Cleans a well for coins of the owner of its block; answers its scale before. */
-    public int clean(int well) {
+    public int clean(int well) throws IndexOutOfBoundsException, IllegalStateException {
         needIndex(well, land.wellCount);
         Well cleaned = land.wells[well];
         int owner = land.blocks[cleaned.block].owner;
@@ -158,7 +162,7 @@ public final class Steamfield {
     }
 
     /** Tells the size of the turbine, which runs then; answers its size before. */
-    public int turbine(int size) {
+    public int turbine(int size) throws IllegalArgumentException {
         needRange(size, 0, MOST_SIZE);
         int before = land.plant.size;
         land.plant.size = size;
@@ -167,7 +171,7 @@ public final class Steamfield {
     }
 
     /** Tells the need of the town; answers that before. */
-    public int town(int need) {
+    public int town(int need) throws IllegalArgumentException {
         needRange(need, 0, MOST_NEED);
         int before = land.plant.need;
         land.plant.need = need;
@@ -177,7 +181,7 @@ public final class Steamfield {
     // ---- what goes on
 
     /** Does steps; answers the power of all these together. */
-    public int run(int steps) {
+    public int run(int steps) throws IllegalArgumentException {
         needRange(steps, 1, MOST_STEPS);
         return powerIn(land, steps);
     }
@@ -185,7 +189,7 @@ public final class Steamfield {
     // ---- what is asked
 
     /** Of a block: 0 mass, 1 heat, 2 salt, 3 tracer, 4 pressure, 5 warmth. */
-    public int ofBlock(int block, int what) {
+    public int ofBlock(int block, int what) throws IndexOutOfBoundsException, IllegalArgumentException {
         needIndex(block, land.blockCount);
         needRange(what, 0, WHATS_OF_BLOCK - 1);
         Block asked = land.blocks[block];
@@ -200,7 +204,7 @@ public final class Steamfield {
     }
 
     /** Of a well: its block, its kind, valve, scale, crust, what it gave in the last step and ever. */
-    public int ofWell(int well, int what) {
+    public int ofWell(int well, int what) throws IndexOutOfBoundsException, IllegalArgumentException {
         needIndex(well, land.wellCount);
         needRange(what, 0, WHATS_OF_WELL - 1);
         Well asked = land.wells[well];
@@ -227,7 +231,7 @@ public final class Steamfield {
     }
 
     /** Of a spring: 0 its flow of the last step, 1 what it lacked then, 2 and 3 the same ever. */
-    public int ofSpring(int spring, int what) {
+    public int ofSpring(int spring, int what) throws IndexOutOfBoundsException, IllegalArgumentException {
         needIndex(spring, land.springCount);
         needRange(what, 0, WHATS_OF_SPRING - 1);
         Spring asked = land.springs[spring];
@@ -244,26 +248,26 @@ public final class Steamfield {
     }
 
     /** Of a face: what went through it in the last step, or how far it is open. */
-    public int ofFace(int face, boolean isFlow) {
+    public int ofFace(int face, boolean isFlow) throws IndexOutOfBoundsException {
         needIndex(face, land.faceCount);
         return isFlow ? land.faces[face].flow : land.faces[face].open;
     }
 
     /** Of the pond: 0 mass, 1 heat, 2 salt, 3 tracer. */
-    public int pond(int what) {
+    public int pond(int what) throws IllegalArgumentException {
         needRange(what, 0, WHATS_OF_POND - 1);
         return land.pond.part(what);
     }
 
     /** Of an owner: 0 coins, 1 its share. */
-    public int ofOwner(int owner, int what) {
+    public int ofOwner(int owner, int what) throws IndexOutOfBoundsException, IllegalArgumentException {
         needIndex(owner, OWNERS);
         needRange(what, 0, WHATS_OF_OWNER - 1);
         return what == 0 ? land.coins[owner] : land.shareOf(owner);
     }
 
     /** Of all mass: 0 told, 1 in blocks, 2 in the pond, 3 used, 4 vented, 5 spilled, 6 from springs. */
-    public int mass(int what) {
+    public int mass(int what) throws IllegalArgumentException {
         needRange(what, 0, WHATS_OF_MASS - 1);
         switch (what) {
             case 0:
@@ -292,7 +296,7 @@ public final class Steamfield {
     }
 
     /** How many of what, and how the plant stands. */
-    public int many(int what) {
+    public int many(int what) throws IllegalArgumentException {
         needRange(what, 0, WHATS_OF_MANY - 1);
         switch (what) {
             case 0:
@@ -339,14 +343,14 @@ public final class Steamfield {
     // ---- what would be (nothing is changed)
 
     /** The power that run would tell. */
-    public int wouldGive(int steps) {
+    public int wouldGive(int steps) throws IllegalArgumentException {
         needRange(steps, 1, MOST_STEPS);
         trial.copyFrom(land);
         return powerIn(trial, steps);
     }
 
     /** In how many steps the block of a well would be so cold; -1, if not in 30. */
-    public int coldIn(int well, int warmth) {
+    public int coldIn(int well, int warmth) throws IndexOutOfBoundsException, IllegalArgumentException {
         needIndex(well, land.wellCount);
         needRange(warmth, 0, MOST_WARMTH);
         trial.copyFrom(land);
@@ -360,7 +364,8 @@ public final class Steamfield {
     }
 
     /** How much more a spring would flow, if the valve of a well was 0. */
-    public int causedBy(int spring, int well, int steps) {
+    public int causedBy(int spring, int well, int steps)
+            throws IndexOutOfBoundsException, IllegalArgumentException {
         needIndex(spring, land.springCount);
         needIndex(well, land.wellCount);
         needRange(steps, 1, MOST_STEPS);
@@ -374,7 +379,7 @@ public final class Steamfield {
     }
 
     /** The best valves for so many steps: 10 times that of producers and that of injectors. */
-    public int bestValves(int steps) {
+    public int bestValves(int steps) throws IllegalArgumentException {
         needRange(steps, 1, MOST_SEARCH_STEPS);
         int lackedBefore = land.lackedEver();
         int best = NONE;

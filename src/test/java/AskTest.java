@@ -257,7 +257,7 @@ public final class AskTest {
     }
 
     /** The checksum by the words of the document, through the calls alone. */
-    private static long digestOf(Steamfield f) {
+    static long digestOf(Steamfield f) {
         long d = 58177;
         for (int what = 0; what <= 12; what++) {
             d = fold(d, f.many(what));

@@ -266,7 +266,7 @@ public final class CompareTest {
                     () -> m.bestValves(few));
                 break;
             case 4:
-                f.digest();
+                Check.due("digest", f.digest(), AskTest.digestOf(f));
                 break;
             default:
                 everything();

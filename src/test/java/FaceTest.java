@@ -10,13 +10,15 @@ import java.util.TreeSet;
 
 /** The public face, the rules that can be seen from outside, and the room that calls take. */
 public final class FaceTest {
+    /** With the first sign of each exception: Index, Argument, State. */
     private static final String[] FACE = {
-        "int block(int,int,int,int,int)", "int face(int,int,int)", "int well(int,boolean)",
-        "int spring(int,int,int)", "int valve(int,int)", "int trace(int,int)", "int clean(int)",
-        "int turbine(int)", "int town(int)", "int run(int)", "int ofBlock(int,int)", "int ofWell(int,int)",
-        "int ofSpring(int,int)", "int ofFace(int,boolean)", "int pond(int)", "int ofOwner(int,int)",
-        "int mass(int)", "boolean isClosed()", "int many(int)", "double meanWarmth()", "int wouldGive(int)",
-        "int coldIn(int,int)", "int causedBy(int,int,int)", "int bestValves(int)", "long digest()"};
+        "int block(int,int,int,int,int) AS", "int face(int,int,int) IAS", "int well(int,boolean) IS",
+        "int spring(int,int,int) IAS", "int valve(int,int) IA", "int trace(int,int) IAS", "int clean(int) IS",
+        "int turbine(int) A", "int town(int) A", "int run(int) A", "int ofBlock(int,int) IA",
+        "int ofWell(int,int) IA", "int ofSpring(int,int) IA", "int ofFace(int,boolean) I", "int pond(int) A",
+        "int ofOwner(int,int) IA", "int mass(int) A", "boolean isClosed() ", "int many(int) A",
+        "double meanWarmth() ", "int wouldGive(int) A", "int coldIn(int,int) IA",
+        "int causedBy(int,int,int) IA", "int bestValves(int) A", "long digest() "};
 
     public static void main(String[] args) throws Exception {
         theFace();
@@ -34,7 +36,11 @@ public final class FaceTest {
             text.append(comma).append(type.getName());
             comma = ",";
         }
-        return text.append(')').toString();
+        text.append(") ");
+        for (Class<?> thrown : method.getExceptionTypes()) {
+            text.append(thrown == Check.INDEX ? 'I' : thrown == Check.ARGUMENT ? 'A' : 'S');
+        }
+        return text.toString();
     }
 
     private static void theFace() {
