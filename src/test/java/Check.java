@@ -26,7 +26,22 @@ final class Check {
         due(what, got ? 1 : 0, want ? 1 : 0);
     }
 
-    /** The class is compared itself, as a machine's exception may be a subclass of the due one. */
+    static void due(String what, String got, String want) {
+        made++;
+        if (!got.equals(want)) {
+            wrong++;
+            System.out.println(what + " is\n  " + got + ", due is\n  " + want);
+        }
+    }
+
+    /** Asks one thing after the other, from 0 on. */
+    static void dueAll(String what, java.util.function.IntUnaryOperator ask, long... want) {
+        for (int i = 0; i < want.length; i++) {
+            due(what + " " + i, ask.applyAsInt(i), want[i]);
+        }
+    }
+
+    /** The class itself is compared, as a machine's exception may be a subclass of the due one; null is for none. */
     static void dueThrow(String what, Class<?> want, Call call) {
         made++;
         Class<?> got = null;
