@@ -65,6 +65,7 @@ public final class EdgeStepTest {
         stepsOfARun();
         powerOfAllTogether();
         nowIsOneMore();
+        atMost512Calls();
         Check.end("EdgeStepTest");
     }
 
@@ -993,5 +994,30 @@ public final class EdgeStepTest {
         Check.due("now behind 30 more", f.many(4), 31);
         Check.dueThrow("a run of none", Check.ARGUMENT, () -> f.run(0));
         Check.due("now behind what was refused", f.many(4), 31);
+    }
+
+    /** "An object is used for at most 512 calls": the last of these is answered like the first. */
+    private static void atMost512Calls() {
+        Steamfield steps = calledOften();
+        Check.due("now as the call 512", steps.many(4), 253 * 30);
+        Steamfield closed = calledOften();
+        Check.due("closed as the call 512", closed.isClosed(), true);
+        Steamfield tracer = calledOften();
+        Check.due("tracer as the call 512", tracer.ofBlock(0, 3) > 999, true);
+    }
+
+    /** A field behind 511 calls, mostly of tracer and of 30 steps. */
+    private static Steamfield calledOften() {
+        Steamfield f = new Steamfield();
+        f.block(99, 0, 2000, 400, 9999);
+        f.well(0, false);
+        f.valve(0, 9);
+        f.turbine(3);
+        f.town(999);
+        for (int i = 0; i < 253; i++) {
+            f.trace(0, 999);
+            f.run(30);
+        }
+        return f;
     }
 }
